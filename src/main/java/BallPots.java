@@ -311,7 +311,8 @@ public final class BallPots {
         }
         Chances chances = fromNow[way];
         if (!chances.fresh) {
-            reckoner.reckonFromNow(chances, way, treeOfNow());
+            reckoner.beginAtStage(way);
+            reckoner.reckon(chances, treeOfNow());
         }
         return chances;
     }
@@ -319,7 +320,8 @@ public final class BallPots {
     private Chances chancesAtStart(int way) {
         Chances chances = fromStart[way];
         if (!chances.fresh) {
-            reckoner.reckonFromStart(chances, way, treeOfNow(), stage.groupAt);
+            reckoner.beginAtStart(way, stage.groupAt);
+            reckoner.reckon(chances, treeOfNow());
         }
         return chances;
     }
@@ -331,27 +333,20 @@ public final class BallPots {
         }
         Chances first = chancesAtStart(one);
         Chances second = chancesAtStart(other);
-        if (what == 1) {
-            return sumOfFar(first, second);
-        }
-        if (what == 5) {
-            return first.rows * second.rows;
-        }
         int pair = farthest(first, second);
-        if (pair == NONE) {
-            return what == 2 || what == 3 ? NONE : 0;
-        }
-        int a = pair / MOST_TEAMS;
-        int b = pair % MOST_TEAMS;
         switch (what) {
+            case 0:
+                return sizeOfFarthest(first, second);
+            case 1:
+                return sumOfFar(first, second);
             case 2:
-                return a;
+                return pair == NONE ? NONE : pair / MOST_TEAMS;
             case 3:
-                return b;
+                return pair == NONE ? NONE : pair % MOST_TEAMS;
             case 4:
-                return far(first, second, a, b);
+                return pair == NONE ? 0 : far(first, second, pair / MOST_TEAMS, pair % MOST_TEAMS);
             default:
-                return Math.abs(far(first, second, a, b));
+                return first.rows * second.rows;
         }
     }
 
@@ -389,28 +384,26 @@ public final class BallPots {
         if (draws.lawfulOnes == 0) {
             return NO_LAWFUL;
         }
+        Chances even = chancesAtStart(EVEN);
         if (what == 0) {
-            if (nearestOrder == STALE) {
-                nearestOrder = findNearest(plan.pots, true);
-            }
+            nearestOrder = nearestOrder == STALE ? findNearest(plan.pots, true, even) : nearestOrder;
             return nearestOrder;
         }
         if (what == 1) {
-            if (nearestArrangement == STALE) {
-                nearestArrangement = findNearest(plan.groups, false);
-            }
+            nearestArrangement = nearestArrangement == STALE ? findNearest(plan.groups, false, even)
+                    : nearestArrangement;
             return nearestArrangement;
         }
         return NONE;
     }
 
-    private int findNearest(int n, boolean ofPots) {
+    private int findNearest(int n, boolean ofPots, Chances even) {
         int[] turns = new int[MOST_POTS];
         int found = 0;
         long least = Long.MAX_VALUE;
         for (int row = 0; row < 1 << 2 * n && least > 0; row++) {
             if (Ranks.readRow(row, n, turns) && (ofPots || !likeAnEarlierOne(turns))) {
-                long size = ofPots ? apartByOrder(turns) : apartByArrangement(turns);
+                long size = ofPots ? apartByOrder(turns, even) : apartByArrangement(turns, even);
                 if (size < least) {
                     least = size;
                     found = bitsOf(turns, n);
@@ -434,21 +427,22 @@ public final class BallPots {
         return false;
     }
 
-    private long apartByOrder(int[] potAt) {
+    private long apartByOrder(int[] potAt, Chances even) {
         treeTried.build(potAt);
-        reckoner.reckonFromStart(tried, SKIP, treeTried, stage.groupAt);
-        return apartOfTried();
+        reckoner.beginAtStart(SKIP, stage.groupAt);
+        reckoner.reckon(tried, treeTried);
+        return sizeOfFarthest(tried, even);
     }
 
-    private long apartByArrangement(int[] groupAt) {
-        reckoner.reckonFromStart(tried, SKIP, treeOfNow(), groupAt);
-        return apartOfTried();
+    private long apartByArrangement(int[] groupAt, Chances even) {
+        reckoner.beginAtStart(SKIP, groupAt);
+        reckoner.reckon(tried, treeOfNow());
+        return sizeOfFarthest(tried, even);
     }
 
-    private long apartOfTried() {
-        Chances even = chancesAtStart(EVEN);
-        int pair = farthest(tried, even);
-        return pair == NONE ? 0 : Math.abs(far(tried, even, pair / MOST_TEAMS, pair % MOST_TEAMS));
+    private long sizeOfFarthest(Chances first, Chances second) {
+        int pair = farthest(first, second);
+        return pair == NONE ? 0 : Math.abs(far(first, second, pair / MOST_TEAMS, pair % MOST_TEAMS));
     }
 
     private static int bitsOf(int[] turns, int n) {
@@ -866,11 +860,15 @@ public final class BallPots {
         }
 
         private boolean readLine(boolean first) {
-            if (kind != WORD) {
+            return readUpToStop(first) && readStop();
+        }
+
+        private boolean readUpToStop(boolean first) {
+            if (kind != WORD || first && value != GROUPS) {
                 return fail(CANT_STAND);
             }
             if (first) {
-                return value == GROUPS ? readGroups() : fail(CANT_STAND);
+                return readGroups();
             }
             switch (value) {
                 case GROUPS:
@@ -880,10 +878,13 @@ public final class BallPots {
                 case MARK:
                     return readMark();
                 case ATMOST:
+                    return isRoomForBar() && readAtMost();
                 case APART:
+                    return isRoomForBar() && readApart();
                 case NEVER:
+                    return isRoomForBar() && readHeld(false);
                 case FIXED:
-                    return readBar(value);
+                    return isRoomForBar() && readHeld(true);
                 default:
                     return fail(CANT_STAND);
             }
@@ -896,7 +897,7 @@ public final class BallPots {
             }
             plan.groups = value;
             step();
-            return readStop();
+            return true;
         }
 
         private boolean readPot() {
@@ -923,7 +924,7 @@ public final class BallPots {
                 return fail(POT_TOO_SMALL);
             }
             plan.pots++;
-            return readStop();
+            return true;
         }
 
         private boolean readMark() {
@@ -953,25 +954,15 @@ public final class BallPots {
                 teams++;
                 step();
             }
-            return readStop();
+            return true;
         }
 
-        private boolean readBar(int word) {
-            if (plan.bars == MOST_BARS) {
-                return fail(TOO_MUCH);
-            }
-            step();
-            switch (word) {
-                case ATMOST:
-                    return readAtMost();
-                case APART:
-                    return readApart();
-                default:
-                    return readHeld(word == FIXED);
-            }
+        private boolean isRoomForBar() {
+            return plan.bars < MOST_BARS || fail(TOO_MUCH);
         }
 
         private boolean readAtMost() {
+            step();
             if (!isNumber(1, 3)) {
                 return false;
             }
@@ -986,10 +977,11 @@ public final class BallPots {
             }
             plan.addAtMost(most, plan.teamsMarked(mark));
             step();
-            return readStop();
+            return true;
         }
 
         private boolean readApart() {
+            step();
             int one = readTeam();
             if (one == NONE) {
                 return false;
@@ -1004,10 +996,11 @@ public final class BallPots {
             }
             plan.addAtMost(1, 1 << one | 1 << other);
             step();
-            return readStop();
+            return true;
         }
 
         private boolean readHeld(boolean fixed) {
+            step();
             int team = readTeam();
             if (team == NONE) {
                 return false;
@@ -1022,7 +1015,7 @@ public final class BallPots {
                 plan.addNever(team, value);
             }
             step();
-            return readStop();
+            return true;
         }
 
         private boolean readStop() {
@@ -1146,10 +1139,6 @@ public final class BallPots {
 
         int groupAt(int rank, int place) {
             return groupOf[rank * MOST_GROUPS + place];
-        }
-
-        int with(int place, int group) {
-            return having[place * MOST_GROUPS + group];
         }
 
         /** The rank of a set that has but one; of the empty set 0, so that it may always be an index. */
@@ -1417,7 +1406,7 @@ public final class BallPots {
                 int each = pot * plan.groups + i;
                 int where = each == team ? group : groupOf[each];
                 if (where != NONE) {
-                    fitting &= ranks.with(i, where);
+                    fitting &= ranks.having[i * MOST_GROUPS + where];
                 }
             }
             return fitting;
@@ -1593,28 +1582,21 @@ public final class BallPots {
             Arrays.fill(keys, 0);
         }
 
-        /** Where in tables the rows stand, by place in the pot and group. */
-        int tableOf(int open, int left) {
-            if (left != (1 << ranks.groups) - 1) {
-                fillTable(SLOTS * CELLS, open, left);
-                return SLOTS * CELLS;
-            }
-            int slot = open * 0x9E3779B1 >>> 26;
-            if (keys[slot] != open) {
-                keys[slot] = open;
-                fillTable(slot * CELLS, open, left);
-            }
-            return slot * CELLS;
+        /** The slot for a set of open ranks; that behind the others if the pot is begun. */
+        int slotOf(int open, int left) {
+            return left == (1 << ranks.groups) - 1 ? open * 0x9E3779B1 >>> 26 : SLOTS;
         }
 
-        private void fillTable(int start, int open, int left) {
-            if (way == EVEN) {
-                for (int cell = 0; cell < CELLS; cell++) {
-                    tables[start + cell] = Integer.bitCount(open & ranks.having[cell]);
-                }
-                return;
+        boolean isKept(int slot, int open) {
+            return slot < SLOTS && keys[slot] == open;
+        }
+
+        /** Keeps rows in a slot's table, by place in the pot and group. */
+        void keepRows(int slot, int open) {
+            if (slot < SLOTS) {
+                keys[slot] = open;
             }
-            fillRows(open, left);
+            int start = slot * CELLS;
             Arrays.fill(tables, start, start + CELLS, 0);
             for (int rank = 0; rank < ranks.many; rank++) {
                 if (rows[rank] != 0) {
@@ -1670,7 +1652,7 @@ public final class BallPots {
 
         private void fieldBall(int open, int left, int balls, long weight, int place) {
             for (int group = 0; group < ranks.groups; group++) {
-                int fitting = open & ranks.with(place, group);
+                int fitting = open & ranks.having[place * MOST_GROUPS + group];
                 if (fitting != 0) {
                     field(fitting, left & ~(1 << place), balls - 1, weight);
                 }
@@ -1680,7 +1662,7 @@ public final class BallPots {
         private int groupsOpen(int open, int place) {
             int groups = 0;
             for (int group = 0; group < ranks.groups; group++) {
-                if ((open & ranks.with(place, group)) != 0) {
+                if ((open & ranks.having[place * MOST_GROUPS + group]) != 0) {
                     groups++;
                 }
             }
@@ -1720,6 +1702,7 @@ public final class BallPots {
         private final int[] rankAt = new int[MOST_POTS];
         private final long[] rowsAt = new long[MOST_POTS * MOST_RANKS];
         private int firstLevel;
+        private int firstPrefix;
         private int firstOpen;
         private int firstLeft;
 
@@ -1730,18 +1713,18 @@ public final class BallPots {
             this.spread = new Spread(draws.ranks);
         }
 
-        void reckonFromStart(Chances chances, int way, Tree tree, int[] groupAt) {
+        void beginAtStart(int way, int[] groupAt) {
             firstLevel = 0;
+            firstPrefix = 0;
             firstOpen = ranks.everyRank;
             firstLeft = (1 << plan.groups) - 1;
             spread.begin(way, groupAt);
-            reckon(chances, tree, 0);
         }
 
-        void reckonFromNow(Chances chances, int way, Tree tree) {
+        void beginAtStage(int way) {
+            beginAtStart(way, stage.groupAt);
             firstLevel = stage.fullPots();
-            firstOpen = ranks.everyRank;
-            firstLeft = (1 << plan.groups) - 1;
+            firstPrefix = stage.prefix();
             for (int level = 0; level < firstLevel; level++) {
                 rankAt[level] = stage.rankAtLevel(level);
             }
@@ -1750,14 +1733,12 @@ public final class BallPots {
                 firstOpen = stage.ranksLeft(pot);
                 firstLeft = stage.placesLeft(pot);
             }
-            spread.begin(way, stage.groupAt);
-            reckon(chances, tree, stage.prefix());
         }
 
-        private void reckon(Chances chances, Tree tree, int prefix) {
+        void reckon(Chances chances, Tree tree) {
             chances.forget();
             if (firstLevel < plan.pots) {
-                walk(chances, tree, firstLevel, prefix, 1);
+                walk(chances, tree, firstLevel, firstPrefix, 1);
             } else {
                 addAhead(chances, tree, plan.pots, 1);
             }
@@ -1775,7 +1756,12 @@ public final class BallPots {
                 left = firstLeft;
             }
             if (level == plan.pots - 1) {
-                addLast(chances, tree, weight, spread.tableOf(open, left));
+                int slot = spread.slotOf(open, left);
+                if (!spread.isKept(slot, open)) {
+                    spread.fillRows(open, left);
+                    spread.keepRows(slot, open);
+                }
+                addLast(chances, tree, weight, slot * Spread.CELLS);
                 return;
             }
             int kept = level * MOST_RANKS;
@@ -1830,14 +1816,12 @@ public final class BallPots {
 
     /** How many draws that break two bars at most have each pair, by the bars that they break. */
     private static final class BarTable {
-        /** No bar, one of ten, or two of ten. */
-        private static final int KINDS = 56;
         private static final int CELLS = MOST_TEAMS * MOST_TEAMS;
 
         private final Draws draws;
         private final Plan plan;
         private final Ranks ranks;
-        private final int[] pairs = new int[KINDS * CELLS];
+        private int[] pairs = new int[CELLS];
         private boolean fresh;
 
         BarTable(Draws draws) {
@@ -1849,6 +1833,10 @@ public final class BallPots {
         private void refresh() {
             if (fresh) {
                 return;
+            }
+            int cells = firstKind(plan.bars) * CELLS;
+            if (pairs.length < cells) {
+                pairs = new int[cells];
             }
             Arrays.fill(pairs, 0);
             for (int code = 0; code < draws.total; code++) {
@@ -1862,11 +1850,16 @@ public final class BallPots {
             fresh = true;
         }
 
+        /** Kinds are numbered by their highest bar: it alone, then with each lower one. */
         private static int kindOf(int low, int high) {
             if (low == NONE) {
                 return 0;
             }
-            return high == NONE ? 1 + low : 1 + MOST_BARS + high * (high - 1) / 2 + low;
+            return high == NONE ? firstKind(low) : firstKind(high) + 1 + low;
+        }
+
+        private static int firstKind(int highest) {
+            return 1 + highest * (highest + 1) / 2;
         }
 
         private void addDraw(int code, int start) {
