@@ -1225,7 +1225,7 @@ public final class BallPots {
         private void breakBar(int bit, int start) {
             int last = (plan.pots - 1) * MOST_RANKS;
             int many = ranks.many;
-            for (int base = 0; base < total; base += many) {
+            for (int base = 0; base < total && many > 0; base += many) {
                 int sum = start;
                 for (int pot = plan.pots - 2; pot >= 0; pot--) {
                     sum += held[pot * MOST_RANKS + rankIn(base, pot)];

@@ -585,6 +585,7 @@ final class PromisesTest {
         BallPots y = of("groups 3;pot a b c;pot d e f;pot g h i;apart b i;never a 2;never g 1;");
         due(24, "order 1, 2, 0", y.nearest(0), 9);
         due(24, "arrangement 1, 2, 0", y.nearest(1), 9);
+        due(24, "fixed: 1, 2, 0", of("groups 3;pot a b c;pot d e f;fixed c 0;apart e b;").nearest(1), 9);
         due(24, "none is lawful", of(NO_DRAW).nearest(0), -2);
         due(24, "none is lawful", of(NO_DRAW).nearest(1), -2);
         due(24, "all alike: the first", of(FOUR).nearest(0), 1 << 2 | 2 << 4);

@@ -16,7 +16,7 @@ final class RandomRunsTest {
 
     public static void main(String[] args) {
         int wrong = 0;
-        long runs = args.length > 0 ? Long.parseLong(args[0]) : 1500;
+        long runs = args.length > 0 ? Long.parseLong(args[0]) : 3000;
         long from = args.length > 1 ? Long.parseLong(args[1]) : 0;
         for (long seed = from; seed < from + runs && wrong < 3; seed++) {
             wrong += new RandomRunsTest(seed).go(seed);
