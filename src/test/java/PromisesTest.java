@@ -30,27 +30,15 @@ final class PromisesTest {
     }
 
     private static void feed(BallPots x, String text) {
-        for (int k = 0; k < text.length(); k += 20) {
-            int[] five = new int[5];
-            for (int i = 0; i < 20; i++) {
-                five[i / 4] = five[i / 4] << 8 | (k + i < text.length() ? text.charAt(k + i) : ' ');
-            }
-            x.feed(five[0], five[1], five[2], five[3], five[4]);
-        }
+        Tapes.feed(x, text);
     }
 
     private static int read(BallPots x, String text) {
-        feed(x, text);
-        return x.text(text.length());
+        return Tapes.read(x, text);
     }
 
     private static BallPots of(String text) {
-        BallPots x = new BallPots();
-        if (read(x, text) < 0) {
-            wrong++;
-            System.out.println("fault " + x.fault(0) + " at " + x.fault(1) + ": " + text);
-        }
-        return x;
+        return Tapes.of(text);
     }
 
     public static void main(String[] args) {
@@ -250,24 +238,16 @@ final class PromisesTest {
         fault("groups 2;pot a ; ;", 5, 15);
     }
 
-    private static int letters(String name) {
-        int code = 0;
-        for (int k = 0; k < 6; k++) {
-            code = code << 5 | (k < name.length() ? name.charAt(k) - 96 : 0);
-        }
-        return code;
-    }
-
     private static void promise5() {
         BallPots x = of("groups 2;pot a zzzzzz;pot ab b;mark b a;mark abcdef b;");
         due(5, "a", x.named(0, 1 << 25), 0);
-        due(5, "zzzzzz", x.named(0, letters("zzzzzz")), 1);
+        due(5, "zzzzzz", x.named(0, Tapes.letters("zzzzzz")), 1);
         due(5, "ab", x.named(0, 1 << 25 | 2 << 20), 2);
-        due(5, "b", x.named(0, letters("b")), 3);
-        due(5, "mark b", x.named(1, letters("b")), 0);
-        due(5, "mark abcdef", x.named(1, letters("abcdef")), 1);
-        due(5, "no such team", x.named(0, letters("abcdef")), -1);
-        due(5, "no such mark", x.named(1, letters("a")), -1);
+        due(5, "b", x.named(0, Tapes.letters("b")), 3);
+        due(5, "mark b", x.named(1, Tapes.letters("b")), 0);
+        due(5, "mark abcdef", x.named(1, Tapes.letters("abcdef")), 1);
+        due(5, "no such team", x.named(0, Tapes.letters("abcdef")), -1);
+        due(5, "no such mark", x.named(1, Tapes.letters("a")), -1);
         due(5, "no letters", x.named(0, 0), -1);
         due(5, "letters at the end", x.named(0, 1), -1);
         due(5, "a bit beyond", x.named(0, 1 << 25 | 1 << 30), -1);

@@ -15,14 +15,7 @@ final class RoomTest {
     }
 
     private static void read(BallPots x, String text) {
-        for (int k = 0; k < text.length(); k += 20) {
-            int[] five = new int[5];
-            for (int i = 0; i < 20; i++) {
-                five[i / 4] = five[i / 4] << 8 | (k + i < text.length() ? text.charAt(k + i) : ' ');
-            }
-            x.feed(five[0], five[1], five[2], five[3], five[4]);
-        }
-        if (x.text(text.length()) < 0) {
+        if (Tapes.read(x, text) < 0) {
             wrong++;
             System.out.println("fault " + x.fault(0) + " at " + x.fault(1));
         }
