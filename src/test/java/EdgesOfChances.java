@@ -187,6 +187,84 @@ final class EdgesOfChances {
         s.due("all are out", alls(x), "1 1 1");
         s.due("a is with e", x.pair(0, 4, 0) + " " + x.pair(0, 4, 1) + " " + x.pair(0, 4, 2), "1 1 1");
         s.due("a is not with f", x.pair(0, 5, 0) + " " + x.pair(0, 5, 1) + " " + x.pair(0, 5, 2), "0 0 0");
+        byBalls(THREE, 36, 36, 0, 2, 1, 4, 3);
+        byBalls("groups 2;pot a b;pot c d;pot e f;pot g h;apart a c;apart e h;never g 0;apart b h;", 114, 1, 5, 4, 1, 0, 7);
+        byBalls("groups 3;pot a b c;pot d e f;pot g h i;never c 0;apart g a;apart f h;apart d i;", 18, 9, 8, 6, 7, 0, 2, 1);
+        byBalls("groups 4;pot a b c d;pot e f g h;apart a e;never b 0;fixed f 3;", 1, 99, 4, 7, 6, 5, 0, 1);
+    }
+
+    /** After each ball, on an object that has not been asked yet: what the rows of the balls left lead to, gone through ball by ball. */
+    private void byBalls(String text, int order, int arrangement, int... teams) {
+        for (int out = 0; out <= teams.length; out++) {
+            BallPots x = Tapes.of(text);
+            s.due("order " + order, x.order(order), true);
+            s.due("arrangement " + arrangement, x.arrange(arrangement), true);
+            for (int k = 0; k < out; k++) {
+                s.due("ball(" + teams[k] + ") of " + text, x.ball(teams[k]) >= 0, true);
+            }
+            int many = x.count(2);
+            long[][] places = new long[many][x.count(0)];
+            long[][] pairs = new long[many][many];
+            long rows = goThrough(x, places, pairs);
+            s.due("all(0)", x.all(0), rows);
+            for (int a = 0; a < many; a++) {
+                for (int g = 0; g < x.count(0); g++) {
+                    s.due("place(" + a + ", " + g + ", 0) of " + text, x.place(a, g, 0), places[a][g]);
+                }
+                for (int b = 0; b < many; b++) {
+                    s.due("pair(" + a + ", " + b + ", 0) of " + text, x.pair(a, b, 0), a == b ? -1 : pairs[a][b]);
+                }
+            }
+            for (int way = 0; way < 3; way++) {
+                together(x, way);
+            }
+            evenByStage(x);
+        }
+    }
+
+    private static long goThrough(BallPots x, long[][] places, long[][] pairs) {
+        int many = x.count(2);
+        long rows = 0;
+        for (int team = 0; team < many; team++) {
+            if (x.ball(team) >= 0) {
+                rows += goThrough(x, places, pairs);
+                x.undo();
+            }
+        }
+        if (x.count(5) < many) {
+            return rows;
+        }
+        for (int a = 0; a < many; a++) {
+            places[a][x.placed(a)]++;
+            for (int b = 0; b < many; b++) {
+                pairs[a][b] += x.placed(a) == x.placed(b) ? 1 : 0;
+            }
+        }
+        return 1;
+    }
+
+    private void evenByStage(BallPots x) {
+        int many = x.count(2);
+        long[][] pairs = new long[many][many];
+        long rows = 0;
+        for (int k = 0; k < x.lawful(); k++) {
+            boolean fits = true;
+            for (int a = 0; a < many; a++) {
+                fits = fits && (x.placed(a) < 0 || x.placed(a) == x.draw(k, a));
+            }
+            rows += fits ? 1 : 0;
+            for (int a = 0; fits && a < many; a++) {
+                for (int b = 0; b < many; b++) {
+                    pairs[a][b] += x.draw(k, a) == x.draw(k, b) ? 1 : 0;
+                }
+            }
+        }
+        s.due("all(1)", x.all(1), rows);
+        for (int a = 0; a < many; a++) {
+            for (int b = 0; b < many; b++) {
+                s.due("pair(" + a + ", " + b + ", 1)", x.pair(a, b, 1), a == b ? -1 : pairs[a][b]);
+            }
+        }
     }
 
     private void pair() {
@@ -213,6 +291,8 @@ final class EdgesOfChances {
         s.due("none is lawful, no such team", none.pair(0, 4, 0), -1);
         s.due("none is lawful, no such way", none.pair(0, 3, 3), -1);
         s.due("none is lawful", none.pair(0, 3, 2), 0);
+        BallPots one = Tapes.of("groups 2;pot a b;pot c d;fixed a 0;fixed d 0;");
+        s.due("one is lawful", one.pair(0, 3, 0) + " " + one.pair(0, 3, 1) + " " + one.pair(0, 3, 2), "4 1 16");
         s.due("no teams", new BallPots().pair(0, 1, 0), -1);
     }
 
@@ -278,6 +358,13 @@ final class EdgesOfChances {
             x.ball(team);
             s.due("whatever is out", parts(x, 0, 1), "32 128 0 4 -32 576");
         }
+        BallPots out = Tapes.of(THREE);
+        for (int team : new int[] {2, 0, 1, 5}) {
+            out.ball(team);
+            out.pair(0, 4, 0);
+            out.pair(0, 4, 1);
+        }
+        s.due("whatever was asked of the stage", parts(out, 0, 1), "32 128 0 4 -32 576");
         BallPots y = Tapes.of("groups 3;pot a b c;pot d e f;pot g h i;never c 0;apart g a;apart f h;");
         s.due("order and arrangement 0, 1, 2", y.apart(0, 1, 0), 1280);
         y.arrange(1 | 0 << 2 | 2 << 4);
@@ -365,6 +452,13 @@ final class EdgesOfChances {
         nearestByTrying("groups 3;pot a b c;pot d e f;pot g h i;apart b i;never a 2;never g 1;");
         nearestByTrying("groups 4;pot a b c d;pot e f g h;apart a e;never b 0;never f 3;never c 1;never d 2;");
         nearestByTrying("groups 3;pot a b c;pot d e f;fixed c 0;apart e b;");
+        nearestByTrying("groups 3;pot a b c;pot d e f;fixed c 1;fixed d 2;apart e b;");
+        nearestByTrying("groups 3;pot a b c;pot d e f;never a 0;fixed d 2;apart e b;");
+        nearestByTrying("groups 3;pot a b c;pot d e f;fixed e 0;fixed d 1;apart c e;apart a d;");
+        nearestByTrying("groups 3;pot a b c;pot d e f;never f 1;fixed e 2;apart c f;apart c f;apart b d;");
+        nearestByTrying("groups 4;pot a b c d;pot e f g h;never c 1;fixed b 3;apart b h;");
+        nearestByTrying("groups 4;pot a b c d;pot e f g h;fixed a 3;never e 1;apart b f;apart c h;");
+        nearestByTrying("groups 4;pot a b c d;pot e f g h;pot i j k l;apart b f;apart c h;apart a l;never a 2;");
     }
 
     /** The least of all that apart() answers when each is told in turn; those told are rows of lesser first places. */

@@ -134,7 +134,24 @@ final class EdgesOfDraws {
                 + "never b 1;never b 2;never b 3;").forbids(), 2 | 8 | 16 | 128);
         s.due("all four of four", Tapes.of("groups 4;pot a b c d;never a 0;never a 1;never a 2;never a 3;").forbids(),
                 15);
+        for (String text : new String[] {"groups 3;pot a b c;pot d e f;never a 0;never b 0;apart a e;never c 0;fixed d 2;",
+            "groups 3;pot a b c;pot d e f;mark m a b d e;apart a d;atmost 1 m;never c 1;fixed c 2;never c 2;",
+            "groups 2;pot a b;pot c d;pot e f;apart a c;apart c e;fixed a 0;apart a e;fixed f 1;"}) {
+            s.due("by texts with fewer bars: " + text, Tapes.of(text).forbids(), fewest(text, ""));
+        }
         s.due("three of four let some", Tapes.of("groups 4;pot a b c d;never a 0;never a 1;never a 2;").forbids(), 0);
+    }
+
+    /** The fewest bars of a text that let none together with some more bars, found by texts with fewer bars. */
+    static int fewest(String text, String more) {
+        int bars = Tapes.of(text).count(4);
+        int found = (1 << bars) - 1;
+        for (int set = 0; set < 1 << bars; set++) {
+            if (Integer.bitCount(set) < Integer.bitCount(found) && Tapes.of(Tapes.withBars(text, set) + more).lawful() == 0) {
+                found = set;
+            }
+        }
+        return found;
     }
 
     private void draw() {
@@ -220,6 +237,41 @@ final class EdgesOfDraws {
         s.due("one pot, none lawful: two", Tapes.of(pot + "never a 0;never a 1;".repeat(2)).leave(100), 5);
     }
 
+    /** All that leave(), moves() and without() answer, by texts without these bars. */
+    private void byTexts(String text) {
+        BallPots x = Tapes.of(text);
+        int every = (1 << x.count(4)) - 1;
+        long[] most = new long[every + 1];
+        long[] all = new long[every + 1];
+        for (int set = 0; set <= every; set++) {
+            BallPots y = Tapes.of(Tapes.withBars(text, every & ~set));
+            all[set] = y.lawful();
+            for (int a = 0; a < y.count(2); a++) {
+                for (int b = (a / y.count(0) + 1) * y.count(0); b < y.count(2); b++) {
+                    most[set] = Math.max(most[set], y.pair(a, b, 1));
+                    if (Integer.bitCount(set) == 1) {
+                        int bar = Integer.numberOfTrailingZeros(set);
+                        s.due("moves(" + bar + ", " + a + ", " + b + ") of " + text, x.moves(bar, a, b),
+                                x.pair(a, b, 1) * y.lawful() - y.pair(a, b, 1) * x.lawful());
+                    }
+                }
+            }
+        }
+        for (int bar = 0; bar < x.count(4); bar++) {
+            s.due("without(" + bar + ") of " + text, x.without(bar), all[1 << bar]);
+        }
+        for (int n = 0; n <= 100; n++) {
+            int found = -1;
+            for (int set = 0; set <= every; set++) {
+                boolean better = found == -1 || Integer.bitCount(set) < Integer.bitCount(found);
+                if (Integer.bitCount(set) <= 2 && better && all[set] > 0 && most[set] * 100 <= n * all[set]) {
+                    found = set;
+                }
+            }
+            s.due("leave(" + n + ") of " + text, x.leave(n), found);
+        }
+    }
+
     private void leaveOneOrTwo() {
         s.says(Sentences.TERMS, "TO LEAVE OUT for N of 100: the fewest BARS, two at most, without which no PAIR of"
                 + " TEAMS of unlike POTS has more than N of 100 of the LAWFUL DRAWS (and some is LAWFUL); of"
@@ -237,6 +289,10 @@ final class EdgesOfDraws {
                 .leave(0), 256 | 512);
         s.due("two", Tapes.of("groups 2;pot a b;pot c d;apart a c;apart b d;").leave(50), 3);
         s.due("not three", Tapes.of("groups 2;pot a b;pot c d;apart a c;apart b d;apart c a;").leave(50), -1);
+        byTexts("groups 3;pot a b c;pot d e f;apart a d;never e 2;apart b d;fixed c 1;never f 0;");
+        byTexts("groups 3;pot a b c;pot d e f;apart a d;apart b e;apart a f;apart b f;");
+        byTexts("groups 2;pot a b;pot c d;pot e f;mark m a c e;atmost 2 m;apart a c;never d 0;fixed e 1;");
+        byTexts("groups 4;pot a b c d;pot e f g h;apart a e;apart a f;apart b e;apart b g;apart d h;");
     }
 
     private void parts() {
@@ -295,6 +351,9 @@ final class EdgesOfDraws {
         }
         s.due("mix(5, 5)", x.mix(5, 5), 81);
         s.due("mix(0, 5)", x.mix(0, 5), 0);
+        s.due("mix(2, 0)", x.mix(2, 0), 3);
+        s.due("parts(2) between", x.parts(2), 6);
+        s.due("mix(3, 1)", x.mix(3, 1), 9);
         s.due("none is lawful", Tapes.of(NO_DRAW).mix(0, 0), -1);
         s.due("a code that isn't lawful", Tapes.of(TWO).mix(5, 0), 0);
         s.due("no swap is lawful: all rows stay", Tapes.of(TWO).mix(5, 1), 32);

@@ -1,3 +1,6 @@
+import java.util.ArrayList;
+import java.util.List;
+
 /** The boundaries of draws by a machine's numbers: promises 31 and 32. */
 final class EdgesOfMachine {
     private static final int MIN = Integer.MIN_VALUE;
@@ -95,6 +98,14 @@ final class EdgesOfMachine {
         s.due("by 0, 1 .., whatever is told", groups(x, 1), "120201");
         BallPots barred = Tapes.of("groups 3;pot a b c;pot d e f;never c 0;apart c e;");
         s.due("c skips 0, e skips that group", groups(barred, 1), "021201");
+        BallPots skipping = Tapes.of("groups 3;pot a b c;pot d e f;apart c e;");
+        s.due("c is in 0: e skips it", groups(skipping, 1), "120210");
+        for (int seed = 0; seed < 40; seed++) {
+            onStage("groups 4;pot a b c d;pot e f g h;apart a e;never b 0;fixed f 3;", seed * 53687091);
+            onStage("groups 3;pot a b c;pot d e f;pot g h i;never c 0;apart g a;apart f h;apart d i;", seed * 53687091);
+            onStage("groups 2;pot a b;pot c d;pot e f;pot g h;apart a c;apart e h;apart b g;", seed);
+        }
+        s.due("one is lawful", groups(Tapes.of("groups 2;pot a b;fixed a 1;"), 1), "10");
         s.says(31, "The GROUP of a TEAM, drawn by THE MACHINE with a seed; NONE: no such ones, no DRAW is LAWFUL.");
         s.due("the last seed: 15929 by 3", x.run(MAX, 2), 0);
         s.due("seed 0: 0 by 3", x.run(0, 0), 0);
@@ -107,6 +118,29 @@ final class EdgesOfMachine {
         s.due("none is lawful", Tapes.of(NO_DRAW).run(1, 0), -1);
         s.due("none is lawful", Tapes.of(NO_DRAW).run(0, 1), -1);
         s.due("no teams", new BallPots().run(1, 0), -1);
+    }
+
+    /** The machine's balls come on the stage: they get the groups that run() tells. */
+    private void onStage(String text, int seed) {
+        BallPots x = Tapes.of(text);
+        String due = groups(x, seed);
+        int number = seed;
+        int groups = x.count(0);
+        for (int pot = 0; pot < x.count(1); pot++) {
+            List<Integer> left = new ArrayList<>();
+            for (int i = 0; i < groups; i++) {
+                left.add(pot * groups + i);
+            }
+            while (!left.isEmpty()) {
+                number = next(number);
+                x.ball(left.remove(number / 65536 % left.size()));
+            }
+        }
+        StringBuilder got = new StringBuilder();
+        for (int team = 0; team < x.count(2); team++) {
+            got.append(x.placed(team));
+        }
+        s.due("seed " + seed + " of " + text, due, got);
     }
 
     private void evenly() {

@@ -115,6 +115,25 @@ final class EdgesOfStage {
         s.due("pot 1 is first", x.ball(0), -1);
         s.due("another order", x.order(4), true);
         s.due("pot 0 is first", x.ball(0), 0);
+        String text = "groups 3;pot a b c;pot d e f;pot g h i;never c 0;apart g a;apart f h;";
+        toldAnew(text, new int[] {36, 18, 24, 9}, true);
+    }
+
+    /** Whatever was asked and out before, all is as if this order or arrangement were told a new object. */
+    private void toldAnew(String text, int[] rows, boolean ofPots) {
+        BallPots x = Tapes.of(text);
+        for (int bits : rows) {
+            Snapshot.of(x);
+            for (int team = 0; team < x.count(2); team++) {
+                x.ball(team);
+            }
+            Snapshot.of(x);
+            BallPots y = Tapes.of(text);
+            s.due("told anew", ofPots ? x.order(bits) : x.arrange(bits), true);
+            s.due("told at first", ofPots ? y.order(bits) : y.arrange(bits), true);
+            s.due("all by " + bits, Snapshot.of(x), Snapshot.of(y));
+            x.nearest(ofPots ? 0 : 1);
+        }
     }
 
     private void ball() {
@@ -165,6 +184,10 @@ final class EdgesOfStage {
         s.due("by the arrangement: 3, 0, 3, 1", reasons(z), "3031");
         s.due("a new pot", balls(z, 2, 3, 4), "023");
         s.due("the old pot's groups are not full: 3, 3, 3, 0", reasons(z), "3330");
+        BallPots other = Tapes.of(TWO);
+        other.order(1);
+        s.due("c, d, then a, not with c", balls(other, 2, 3, 0), "011");
+        s.due("a team of another pot does not fill 0: 2, 0", reasons(other), "20");
         s.says(13, "NONE: no ball is out, no such GROUP.");
         for (int group : new int[] {-1, 4, MIN, MAX}) {
             s.due("why(" + group + ")", z.why(group), -1);
@@ -210,6 +233,12 @@ final class EdgesOfStage {
         x.arrange(1 | 0 << 2 | 2 << 4 | 3 << 6);
         x.clear();
         s.due("the order and the arrangement stay", balls(x, 0, 4, 5), "-110");
+        BallPots y = Tapes.of(THREE);
+        String before = Snapshot.of(y);
+        balls(y, 2, 0, 1, 5);
+        s.due("all has changed", Snapshot.of(y).equals(before), false);
+        s.due("four were out", y.clear(), 4);
+        s.due("all is as it was", Snapshot.of(y), before);
     }
 
     private void placed() {
@@ -259,6 +288,8 @@ final class EdgesOfStage {
         s.due("group 0 is first", x.ball(0), 0);
         s.due("no pots", new BallPots().arrange(1), true);
         s.due("no pots, a group twice", new BallPots().arrange(0), false);
+        String text = "groups 3;pot a b c;pot d e f;pot g h i;never c 0;apart g a;apart f h;";
+        toldAnew(text, new int[] {36, 18, 33, 9}, false);
     }
 
     private void undo() {
@@ -310,6 +341,13 @@ final class EdgesOfStage {
         s.due("no ball is out", x.blame(0), -1);
         x.ball(0);
         s.due("2: never a 0", x.blame(0), 1);
+        BallPots first = Tapes.of("groups 2;pot a b;never a 0;");
+        first.ball(0);
+        s.due("just the first code would be", first.blame(0), 1);
+        BallPots last = Tapes.of("groups 2;pot a b;never a 1;");
+        last.arrange(1);
+        last.ball(0);
+        s.due("just the last code would be", last.blame(1), 1);
         s.due("2: never a 1", x.blame(1), 2);
         s.due("0", x.blame(2), -1);
         for (int group : new int[] {-1, 3, MIN, MAX}) {
@@ -353,6 +391,26 @@ final class EdgesOfStage {
         balls(ahead, 1, 0);
         s.due("the ball of c", ahead.ball(2), 0);
         s.due("nothing to blame behind it", ahead.blame(1), -1);
+        blameByTexts("groups 3;pot a b c;pot d e f;apart a d;apart b d;never e 2;fixed c 1;", 0, 1, 2, 3, 4, 5);
+        blameByTexts("groups 3;pot a b c;pot d e f;apart a d;never d 1;never e 2;never f 0;", 2, 1, 0, 5, 3, 4);
+        blameByTexts("groups 4;pot a b c d;never a 0;never a 1;never b 0;never b 1;never c 3;", 2, 3, 1, 0);
+    }
+
+    /** The fewest bars of a text that let none, if those placed are fixed by bars of their own. */
+    private void blameByTexts(String text, int... teams) {
+        BallPots x = Tapes.of(text);
+        StringBuilder fixed = new StringBuilder();
+        for (int team : teams) {
+            int got = x.ball(team);
+            for (int group = 0; group < x.count(0); group++) {
+                int due = -1;
+                if (x.why(group) == 2) {
+                    due = EdgesOfDraws.fewest(text, fixed + "fixed " + (char) ('a' + team) + " " + group + ";");
+                }
+                s.due("blame(" + group + ") of " + team + ", " + text, x.blame(group), due);
+            }
+            fixed.append("fixed ").append((char) ('a' + team)).append(' ').append(got).append(';');
+        }
     }
 
     /** Each call that is refused leaves all that the object answers as it was. */

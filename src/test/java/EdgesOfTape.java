@@ -19,6 +19,7 @@ final class EdgesOfTape {
         feed();
         fullTape();
         text();
+        textBehindText();
         textWithFault();
         textRefused();
         emptyText();
@@ -121,6 +122,26 @@ final class EdgesOfTape {
         s.due("marks of b", other.look(1, 1), 0);
         s.due("bars", other.count(4), 1);
         s.due("lawful", other.lawful(), 2);
+    }
+
+    /** Nothing that was asked or told by an earlier text is left behind a new one. */
+    private void textBehindText() {
+        String[] texts = {"", TWO, THREE, "groups 2;pot a b;never a 0;never a 1;", "groups 2;pot a b;pot c d;",
+            "groups 3;pot a b c;pot d e f;never a 2;apart d b;",
+            "groups 4;pot a b c d;pot e f g h;apart a e;never b 0;fixed f 3;mark m c d g;atmost 1 m;",
+            "groups 4;pot a b c d;pot e f g h;never a 3;never e 1;apart c f;apart d h;never c 2;",
+            "groups 2;pot a b;pot c d;pot e f;pot g h;apart a c;apart e h;never g 0;"};
+        for (String one : texts) {
+            for (String other : texts) {
+                BallPots x = Tapes.of(one);
+                Snapshot.of(x);
+                x.ball(0);
+                Snapshot.of(x);
+                x.ball(1);
+                s.due("a text behind another", Tapes.read(x, other) >= 0, true);
+                s.due(other + " behind " + one, Snapshot.of(x), Snapshot.of(Tapes.of(other)));
+            }
+        }
     }
 
     private void textWithFault() {

@@ -230,7 +230,12 @@ final class EdgesOfTexts {
                 s.due("judge(" + code + "), at most " + most, x.judge(code), ones <= most && 4 - ones <= most ? 1 : 0);
             }
         }
-        s.due("three of four with a mark", Tapes.of("groups 2;pot a b;pot c d;mark m a;atmost 1 m;").lawful(), 4);
+        s.due("one with a mark", Tapes.of("groups 2;pot a b;pot c d;mark m a;atmost 1 m;").lawful(), 4);
+        s.due("by the second mark", Tapes.of("groups 2;pot a b;pot c d;mark m a d;mark n a c;atmost 1 n;").judge(0), 0);
+        s.due("not by the first", Tapes.of("groups 2;pot a b;pot c d;mark m a d;mark n a c;atmost 1 n;").judge(1), 1);
+        String six = "groups 2;pot a b;pot c d;mark m a;mark n a;mark o a;mark q a;mark r a;mark s a c;atmost 1 s;";
+        s.due("by the sixth mark", Tapes.of(six).judge(0), 0);
+        s.due("not by others", Tapes.of(six).judge(1), 1);
     }
 
     private void firstFault() {
@@ -309,10 +314,21 @@ final class EdgesOfTexts {
         s.fault(1, "groups^");
         s.fault(1, "groups ^");
         s.fault(1, "groups 2 ^");
+        cutAt("groups 2;pot a b;", 16);
+        cutAt("groups 2;pot a bc;", 16);
+        cutAt("groups 22;", 8);
+        cutAt("groups 2; ;", 8);
+        cutAt("groups 2;" + " ".repeat(383) + "pot aa b", 400);
+        cutAt("groups 2;pot a b;" + " ".repeat(373) + "never a 01", 400);
+    }
+
+    /** What stands on the tape behind a text is no part of it. */
+    private void cutAt(String taped, int length) {
         BallPots x = new BallPots();
-        Tapes.feed(x, "groups 2;pot a b;");
-        s.due("a text that ends ahead of its ;", x.text(16), -1);
-        s.due("its length, not the tape's", x.fault(1), 16);
+        Tapes.feed(x, taped);
+        s.due("the first " + length + " of " + taped, x.text(length), -1);
+        s.due("more must come", x.fault(0), 1);
+        s.due("its length, not the tape's", x.fault(1), length);
     }
 
     private void firstLine() {

@@ -74,7 +74,7 @@ final class Sentences {
                 tell("too few answers: " + entry.getKey());
             }
         }
-        for (int k = 0; k <= PROMISES; k++) {
+        for (int k = 0; k <= PROMISES && Files.exists(DOCUMENT); k++) {
             lookAt(k, document.getOrDefault(k, ""));
         }
         System.out.println(checks + " answers under " + answers.size() + " sentences, " + wrong + " are not as due");
@@ -88,7 +88,7 @@ final class Sentences {
             if (at < 0) {
                 tell("the document does not say this: " + key(k, words));
             }
-            for (int i = Math.max(at, 0); i < at + words.length(); i++) {
+            for (int i = at; at >= 0 && i < at + words.length(); i++) {
                 covered[i] = true;
             }
         }
@@ -107,7 +107,8 @@ final class Sentences {
     /** The terms as section 0, then what the promises say behind their methods; all blanks as one. */
     private static Map<Integer, String> sections() throws IOException {
         Map<Integer, String> map = new TreeMap<>();
-        for (String part : Files.readString(DOCUMENT).split("\n## ")) {
+        String whole = Files.exists(DOCUMENT) ? Files.readString(DOCUMENT) : "";
+        for (String part : whole.split("\n## ")) {
             String text = part.replace("```text", " ").replace("```", " ").replaceAll("\\s+", " ");
             if (text.startsWith("Terms ")) {
                 map.put(TERMS, text.substring(6));

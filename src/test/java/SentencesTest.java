@@ -6,6 +6,10 @@ final class SentencesTest {
     }
 
     public static void main(String[] args) throws IOException {
+        System.exit(wrongOnes() == 0 ? 0 : 1);
+    }
+
+    static int wrongOnes() throws IOException {
         Sentences s = new Sentences();
         new EdgesOfTexts(s).all();
         new EdgesOfTape(s).all();
@@ -13,6 +17,6 @@ final class SentencesTest {
         new EdgesOfStage(s).all();
         new EdgesOfChances(s).all();
         new EdgesOfMachine(s).all();
-        System.exit(s.finish() == 0 ? 0 : 1);
+        return s.finish();
     }
 }

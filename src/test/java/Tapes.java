@@ -28,6 +28,20 @@ final class Tapes {
         return x;
     }
 
+    /** The text with just those of its bars whose bits are set. */
+    static String withBars(String text, int set) {
+        StringBuilder kept = new StringBuilder();
+        int bar = 0;
+        for (String line : text.split("(?<=;)")) {
+            boolean isBar = line.matches("(atmost|apart|never|fixed) .*");
+            if (!isBar || (set >> bar & 1) != 0) {
+                kept.append(line);
+            }
+            bar += isBar ? 1 : 0;
+        }
+        return kept.toString();
+    }
+
     /** A name as named() wants it. */
     static int letters(String name) {
         int code = 0;
