@@ -188,12 +188,14 @@ final class EdgesOfChances {
         s.due("a is with e", x.pair(0, 4, 0) + " " + x.pair(0, 4, 1) + " " + x.pair(0, 4, 2), "1 1 1");
         s.due("a is not with f", x.pair(0, 5, 0) + " " + x.pair(0, 5, 1) + " " + x.pair(0, 5, 2), "0 0 0");
         byBalls(THREE, 36, 36, 0, 2, 1, 4, 3);
-        byBalls("groups 2;pot a b;pot c d;pot e f;pot g h;apart a c;apart e h;never g 0;apart b h;", 114, 1, 5, 4, 1, 0, 7);
-        byBalls("groups 3;pot a b c;pot d e f;pot g h i;never c 0;apart g a;apart f h;apart d i;", 18, 9, 8, 6, 7, 0, 2, 1);
+        byBalls("groups 2;pot a b;pot c d;pot e f;pot g h;apart a c;apart e h;never g 0;apart b h;", 114, 1,
+                5, 4, 1, 0, 7);
+        byBalls("groups 3;pot a b c;pot d e f;pot g h i;never c 0;apart g a;apart f h;apart d i;", 18, 9,
+                8, 6, 7, 0, 2, 1);
         byBalls("groups 4;pot a b c d;pot e f g h;apart a e;never b 0;fixed f 3;", 1, 99, 4, 7, 6, 5, 0, 1);
     }
 
-    /** After each ball, on an object that has not been asked yet: what the rows of the balls left lead to, gone through ball by ball. */
+    /** What the rows of the balls left lead to, gone through ball by ball, on objects that have not been asked yet. */
     private void byBalls(String text, int order, int arrangement, int... teams) {
         for (int out = 0; out <= teams.length; out++) {
             BallPots x = Tapes.of(text);

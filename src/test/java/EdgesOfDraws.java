@@ -134,9 +134,10 @@ final class EdgesOfDraws {
                 + "never b 1;never b 2;never b 3;").forbids(), 2 | 8 | 16 | 128);
         s.due("all four of four", Tapes.of("groups 4;pot a b c d;never a 0;never a 1;never a 2;never a 3;").forbids(),
                 15);
-        for (String text : new String[] {"groups 3;pot a b c;pot d e f;never a 0;never b 0;apart a e;never c 0;fixed d 2;",
+        String[] texts = {"groups 3;pot a b c;pot d e f;never a 0;never b 0;apart a e;never c 0;fixed d 2;",
             "groups 3;pot a b c;pot d e f;mark m a b d e;apart a d;atmost 1 m;never c 1;fixed c 2;never c 2;",
-            "groups 2;pot a b;pot c d;pot e f;apart a c;apart c e;fixed a 0;apart a e;fixed f 1;"}) {
+            "groups 2;pot a b;pot c d;pot e f;apart a c;apart c e;fixed a 0;apart a e;fixed f 1;"};
+        for (String text : texts) {
             s.due("by texts with fewer bars: " + text, Tapes.of(text).forbids(), fewest(text, ""));
         }
         s.due("three of four let some", Tapes.of("groups 4;pot a b c d;never a 0;never a 1;never a 2;").forbids(), 0);
@@ -147,7 +148,8 @@ final class EdgesOfDraws {
         int bars = Tapes.of(text).count(4);
         int found = (1 << bars) - 1;
         for (int set = 0; set < 1 << bars; set++) {
-            if (Integer.bitCount(set) < Integer.bitCount(found) && Tapes.of(Tapes.withBars(text, set) + more).lawful() == 0) {
+            boolean none = Tapes.of(Tapes.withBars(text, set) + more).lawful() == 0;
+            if (none && Integer.bitCount(set) < Integer.bitCount(found)) {
                 found = set;
             }
         }

@@ -35,12 +35,12 @@ final class EdgesOfMachine {
         s.due("the least seed", x.evenly(MIN, 2), -1);
     }
 
-    private static int next(int number) {
+    static int next(int number) {
         return (int) ((number * 1103515245L + 12345) % (1L << 31));
     }
 
     /** The multiplier is odd: its inverse modulo 2 to the 31 leads back. */
-    private static int seedBefore(int number) {
+    static int seedBefore(int number) {
         long inverse = 1;
         for (int k = 0; k < 31; k++) {
             inverse = inverse * (2 - 1103515245L * inverse) & 0x7fffffffL;

@@ -720,25 +720,12 @@ final class PromisesTest {
         due(32, "seed -1", x.evenly(-1, 0), -1);
         due(32, "none is lawful", of(NO_DRAW).evenly(1, 0), -1);
         due(32, "one draw", new BallPots().evenly(1, 0), 0);
-        int seed = seedBefore(2147483646);
+        int seed = EdgesOfMachine.seedBefore(2147483646);
         due(32, "2147483646 is too much for six: two came", x.evenly(seed, 1), 2);
-        due(32, "the second one", x.evenly(seed, 2), next(2147483646));
-        due(32, "its rest", x.evenly(seed, 0), next(2147483646) % 6);
+        due(32, "the second one", x.evenly(seed, 2), EdgesOfMachine.next(2147483646));
+        due(32, "its rest", x.evenly(seed, 0), EdgesOfMachine.next(2147483646) % 6);
         due(32, "but not for two", of("groups 2;pot a b;").evenly(seed, 1), 1);
-        due(32, "2147483645 will do for six", x.evenly(seedBefore(2147483645), 1), 1);
-    }
-
-    private static int next(int number) {
-        return (int) ((number * 1103515245L + 12345) % (1L << 31));
-    }
-
-    /** The multiplier is odd: its inverse modulo 2 to the 31 leads back. */
-    private static int seedBefore(int number) {
-        long inverse = 1;
-        for (int k = 0; k < 31; k++) {
-            inverse = inverse * (2 - 1103515245L * inverse) & 0x7fffffffL;
-        }
-        return (int) ((number - 12345) * inverse & 0x7fffffffL);
+        due(32, "2147483645 will do for six", x.evenly(EdgesOfMachine.seedBefore(2147483645), 1), 1);
     }
 
     /** 1: IndexOutOfBoundsException, 2: NoSuchElementException, 0: nothing is thrown. */

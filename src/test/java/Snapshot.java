@@ -50,7 +50,8 @@ final class Snapshot {
         for (int n : new int[] {5, 2, 3, 0}) {
             all.append(' ').append(x.mixed(n, 0)).append(' ').append(x.parts(n % 3)).append(' ').append(x.mix(n, 0));
             all.append(' ').append(x.parts(1));
-            all.append(' ').append(x.run(n, 0)).append(' ').append(x.run(n, x.count(2) - 1)).append(' ').append(x.evenly(n, 0));
+            all.append(' ').append(x.run(n, 0)).append(' ').append(x.run(n, x.count(2) - 1));
+            all.append(' ').append(x.evenly(n, 0));
         }
         for (int bar = 0; bar < x.count(4); bar++) {
             all.append(' ').append(x.without(bar)).append(' ').append(x.moves(bar, 0, x.count(2) - 1));
