@@ -26,6 +26,8 @@ final class FaceTest {
         "\\bdouble\\b", "\\bfloat\\b", "\\bthrow new (?!IndexOutOfBoundsException\\(|NoSuchElementException\\()",
         "[^\\x00-\\x7f]", "\\bpackage\\b", "\\bString\\b"};
 
+    private static final Path DOCUMENT = Path.of("../shared/DOC.md");
+
     private static int wrong;
 
     private FaceTest() {
@@ -47,6 +49,7 @@ final class FaceTest {
             parts(inside);
         }
         hold(BallPots.class.getDeclaredClasses().length <= 11, "at most twelve classes");
+        documentsFace();
         Path source = Path.of("src/main/java/BallPots.java");
         hold(Files.exists(source), "the test is run where the project's files are");
         String code = Files.readString(source).replaceAll("(?s)/\\*.*?\\*/", "");
@@ -86,6 +89,26 @@ final class FaceTest {
             hold(Modifier.isPrivate(f.getModifiers()) || f.getName().equals("NONE"), f + " is private");
         }
         hold(BallPots.NONE == -1, "NONE is -1");
+    }
+
+    /** The rows above are those of the document, and look alone declares what it throws. */
+    private static void documentsFace() throws IOException {
+        Set<String> throwing = new TreeSet<>();
+        for (Method m : BallPots.class.getDeclaredMethods()) {
+            for (Class<?> type : m.getExceptionTypes()) {
+                throwing.add(m.getName() + " " + type.getSimpleName());
+            }
+        }
+        hold(throwing.equals(Set.of("look IndexOutOfBoundsException", "look NoSuchElementException")),
+                "declared to be thrown: " + throwing);
+        if (Files.exists(DOCUMENT)) {
+            Set<String> told = new TreeSet<>();
+            Matcher m = Pattern.compile("public (\\w+ \\w+\\([^)]*\\))").matcher(Files.readString(DOCUMENT));
+            while (m.find()) {
+                told.add(m.group(1).replaceAll(" \\w+(?=[,)])", "").replace(", ", ","));
+            }
+            hold(told.equals(new TreeSet<>(Arrays.asList(FACE))), "the document's face is " + told);
+        }
     }
 
     private static void noPrivateNamesake(Class<?> c, Set<String> names) {
